@@ -132,8 +132,9 @@ public final class LockRuns {
         if (!planner.hasPlan()) {
             throw new IllegalStateException("there is no plan");
         }
+        planner.keepForComparison();
         fleet.setArrival(ship, arrives);
-        return planner.searchAnew();
+        return planner.search() ? planner.moved() : NONE;
     }
 
     public int home(int ship) throws IndexOutOfBoundsException {
@@ -185,7 +186,7 @@ public final class LockRuns {
     }
 
     private static boolean holds(int set, int ship) {
-        return (set >> ship & 1) != 0;
+        return (set & (1 << ship)) != 0;
     }
 
     /** The chambers and the spans in which they are closed. */
@@ -380,7 +381,10 @@ public final class LockRuns {
         }
     }
 
-    /** Lays ships into a chamber; the places of the last laying stay in it. */
+    /**
+     * Lays ships into a chamber; the places of the last laying stay in it. A set of cells is an
+     * int with bit WIDEST * x + y for the cell at x and y.
+     */
     private static final class Berths {
         private static final int UNKNOWN = 0;
         private static final int FITTING = 1;
@@ -390,8 +394,8 @@ public final class LockRuns {
         private final Fleet fleet;
         private final int[] xs = new int[MOST_SHIPS];
         private final int[] ys = new int[MOST_SHIPS];
-        // Chambers and ships keep their measures, so what has been found holds for one gap.
-        private final int[] found = new int[MOST_CHAMBERS * SHIP_SETS];
+        // Chambers and ships keep their measures, so what was found for a gap holds for good.
+        private final int[] found = new int[(MOST_GAP + 1) * MOST_CHAMBERS * SHIP_SETS];
         private int gap;
 
         Berths(Chambers chambers, Fleet fleet) {
@@ -405,9 +409,6 @@ public final class LockRuns {
 
         void setGap(int gap) {
             this.gap = gap;
-            for (int at = 0; at < MOST_CHAMBERS * SHIP_SETS; at++) {
-                found[at] = UNKNOWN;
-            }
         }
 
         int x(int ship) {
@@ -419,60 +420,66 @@ public final class LockRuns {
         }
 
         boolean canLay(int chamber, int set) {
-            if (!chambers.has(chamber) || set < 0 || set >= SHIP_SETS) {
+            int at = (gap * MOST_CHAMBERS + chamber) * SHIP_SETS + set;
+            if (at < 0 || at >= found.length) {
                 return false;
             }
-            int at = chamber * SHIP_SETS + set;
             if (found[at] == UNKNOWN) {
-                found[at] = lay(chamber, set) ? FITTING : UNFITTING;
+                found[at] = layFrom(0, chamber, set, 0) ? FITTING : UNFITTING;
             }
             return found[at] == FITTING;
         }
 
         /** Lays these ships in the first of all ways, if there is one. */
         boolean lay(int chamber, int set) {
-            return layFrom(0, chamber, set);
+            return layFrom(0, chamber, set, 0);
         }
 
-        private boolean layFrom(int ship, int chamber, int set) {
+        /** Lays those of a set from this ship on, clear of the cells that the others block. */
+        private boolean layFrom(int ship, int chamber, int set, int blocked) {
             if (ship < 0 || ship >= MOST_SHIPS) {
                 return true;
             }
             if (!holds(set, ship)) {
-                return layFrom(ship + 1, chamber, set);
+                return layFrom(ship + 1, chamber, set, blocked);
             }
-            int lastX = chambers.length(chamber) - fleet.length(ship);
-            int spareWidth = chambers.width(chamber) - fleet.width(ship);
-            if (spareWidth < 0) {
+            int length = fleet.length(ship);
+            int width = fleet.width(ship);
+            int lastX = chambers.length(chamber) - length;
+            int lastY = chambers.width(chamber) - width;
+            if (lastY < 0) {
                 return false;
             }
-            int firstY = fleet.side(ship) == RIGHT ? spareWidth : 0;
-            int lastY = fleet.side(ship) == LEFT ? 0 : spareWidth;
+            int firstY = fleet.side(ship) == RIGHT ? lastY : 0;
+            if (fleet.side(ship) == LEFT) {
+                lastY = 0;
+            }
+            int hull = cells(0, length, 0, width);
             for (int x = 0; x <= lastX; x++) {
                 for (int y = firstY; y <= lastY; y++) {
-                    xs[ship] = x;
-                    ys[ship] = y;
-                    if (isClear(ship, set) && layFrom(ship + 1, chamber, set)) {
-                        return true;
+                    if (((hull << (WIDEST * x + y)) & blocked) == 0) {
+                        xs[ship] = x;
+                        ys[ship] = y;
+                        // Cells nearer than the gap are blocked for the others too.
+                        int near = cells(x - gap, x + length + gap, y - gap, y + width + gap);
+                        if (layFrom(ship + 1, chamber, set, blocked | near)) {
+                            return true;
+                        }
                     }
                 }
             }
             return false;
         }
 
-        /** Whether a ship stands clear of those of the set that were laid ahead of it. */
-        private boolean isClear(int ship, int set) {
-            for (int other = 0; other < ship && other < MOST_SHIPS; other++) {
-                if (holds(set, other) && !standsOff(other, ship) && !standsOff(ship, other)) {
-                    return false;
+        /** The cells of a rectangle, less what stands out of the largest chamber. */
+        private static int cells(int fromX, int toX, int fromY, int toY) {
+            int cells = 0;
+            for (int x = Math.max(fromX, 0); x < toX && x < LONGEST; x++) {
+                for (int y = Math.max(fromY, 0); y < toY && y < WIDEST; y++) {
+                    cells |= 1 << (WIDEST * x + y);
                 }
             }
-            return true;
-        }
-
-        private boolean standsOff(int one, int other) {
-            return x(one) + fleet.length(one) + gap <= x(other)
-                    || y(one) + fleet.width(one) + gap <= y(other);
+            return cells;
         }
     }
 
@@ -581,8 +588,6 @@ public final class LockRuns {
         private final Timetable trial = new Timetable();
         private final Timetable best = new Timetable();
         private final Timetable previous = new Timetable();
-        private final int[] xs = new int[MOST_SHIPS];
-        private final int[] ys = new int[MOST_SHIPS];
         private boolean planned;
         private int over = MOST_OVER;
 
@@ -615,16 +620,16 @@ public final class LockRuns {
         boolean search() {
             planned = false;
             tryRuns(0, 0, fleet.all(), 0, 0, 0);
-            if (planned) {
-                layAll();
-            }
             return planned;
         }
 
-        /** Searches again, and tells how many ships the new plan moves, or NONE. */
-        int searchAnew() {
+        void keepForComparison() {
             previous.copyFrom(best);
-            return search() ? best.differences(previous, fleet.all()) : NONE;
+        }
+
+        /** How many ships have another chamber or beginning than in the plan that was kept. */
+        int moved() {
+            return best.differences(previous, fleet.all());
         }
 
         /**
@@ -685,29 +690,22 @@ public final class LockRuns {
             return times;
         }
 
-        private void layAll() {
-            for (int ship = 0; ship < MOST_SHIPS && ship < fleet.size(); ship++) {
-                int chamber = best.chamberOf(ship);
-                berths.lay(chamber, best.aboard(chamber, best.runOf(ship), fleet.all()));
-                xs[ship] = berths.x(ship);
-                ys[ship] = berths.y(ship);
-            }
-        }
-
         int tellShip(int ship, int what) {
-            if (ship < 0 || ship >= MOST_SHIPS) {
-                return NONE;
-            }
             switch (what) {
                 case 0: return best.chamberOf(ship);
                 case 1: return best.runOf(ship);
                 case 2: return best.begin(ship);
-                case 3: return xs[ship];
-                case 4: return ys[ship];
+                case 3: return layRunOf(ship) ? berths.x(ship) : NONE;
+                case 4: return layRunOf(ship) ? berths.y(ship) : NONE;
                 case 5: return best.begin(ship) - fleet.arrival(ship);
                 case 6: return overtaken(best, ship);
                 default: return NONE;
             }
+        }
+
+        private boolean layRunOf(int ship) {
+            int chamber = best.chamberOf(ship);
+            return berths.lay(chamber, best.aboard(chamber, best.runOf(ship), fleet.all()));
         }
 
         int tellRun(int chamber, int run, int what) {

@@ -98,6 +98,12 @@ public final class PlanTest {
         both.ship(8, 1, 0, 1, 2);
         CHECK.due("plan() of one up and one down", 10, both.plan());
         shipIs(both, 1, 0, 1, 10, 10, 0);
+        LockRuns back = lock(8, 1, 10);
+        back.ship(8, 1, 0, 1, 2);
+        back.ship(8, 1, 15, 0, 2);
+        CHECK.due("plan() of one down and then one up", 15, back.plan());
+        shipIs(back, 0, 0, 0, 10, 10, 0);
+        shipIs(back, 1, 0, 1, 20, 5, 0);
     }
 
     private static void closedSpansAreKeptClear() {
@@ -194,6 +200,14 @@ public final class PlanTest {
         lock.plan();
         CHECK.due("times that ship 0 is overtaken", 1, lock.of(0, 6));
         CHECK.due("times that ship 1 is overtaken", 0, lock.of(1, 6));
+        LockRuns lesser = lock(8, 1, 10);
+        lesser.chamber(1, 3, 10);
+        lesser.ship(1, 2, 9, 0, 2);
+        lesser.ship(8, 1, 5, 0, 2);
+        lesser.closed(0, 0, 500);
+        lesser.plan();
+        CHECK.due("times that ship 1 is overtaken by ship 0", 1, lesser.of(1, 6));
+        CHECK.due("times that ship 0 is overtaken", 0, lesser.of(0, 6));
         LockRuns turned = lock(8, 1, 10);
         turned.chamber(1, 3, 10);
         turned.ship(1, 2, 0, 0, 2);
