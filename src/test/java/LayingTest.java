@@ -70,6 +70,14 @@ public final class LayingTest {
             CHECK.due("1 and 1 across 3 with gap " + gap, gap <= 1, sideways.fits(0, 3));
             CHECK.due("a ship alone needs no gap", true, sideways.fits(0, 1));
         }
+        LockRuns beside = lock(5, 3);
+        beside.ship(2, 1, 0, 0, 1);
+        beside.ship(2, 3, 0, 0, 2);
+        beside.rule(1, 3);
+        beside.plan();
+        places("a wide one behind one at the right", beside, 0, 2, 3, 0);
+        beside.rule(2, 3);
+        CHECK.due("the same with too large a gap", false, beside.fits(0, 3));
         LockRuns lock = lock(8, 1);
         lock.ship(4, 1, 0, 0, 2);
         lock.ship(4, 1, 0, 0, 2);
