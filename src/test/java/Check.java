@@ -8,6 +8,8 @@ final class Check {
     static final String ARITHMETIC = "ArithmeticException";
 
     private final String test;
+    private String sentence = "";
+    private int askedOfSentence;
     private int asked;
     private int wrong;
 
@@ -15,11 +17,28 @@ final class Check {
         this.test = test;
     }
 
+    /** The document's words that the answers from here on are due by. */
+    void sentence(String words) {
+        endSentence();
+        sentence = words;
+        askedOfSentence = 0;
+    }
+
+    private void endSentence() {
+        // A sentence that nothing was asked of is not tested.
+        if (!sentence.isEmpty() && askedOfSentence == 0) {
+            wrong++;
+            System.out.println(test + ": nothing was asked of \"" + sentence + "\"");
+        }
+    }
+
     void due(String call, Object want, Object got) {
         asked++;
+        askedOfSentence++;
         if (!want.equals(got)) {
             wrong++;
-            System.out.println(test + ": " + call + " answered " + got + ", due is " + want);
+            System.out.println(test + ": " + (sentence.isEmpty() ? "" : "\"" + sentence + "\": ")
+                    + call + " answered " + got + ", due is " + want);
         }
     }
 
@@ -37,42 +56,47 @@ final class Check {
         }
     }
 
-    /** All that an object tells of itself, by every asking call. */
+    /**
+     * All that an object tells of itself, in some 100 calls: an object is good for 512, so that
+     * it can be asked for a few times.
+     */
     static String state(LockRuns lock) {
         StringBuilder all = new StringBuilder();
-        for (int what = -1; what <= 8; what++) {
+        for (int what = 0; what <= 7; what++) {
             int w = what;
-            all.append(" count").append(w).append('=').append(answer(() -> lock.count(w)));
+            tell(all, "count" + w, () -> lock.count(w));
         }
-        for (int ship = -1; ship <= 4; ship++) {
+        for (int ship = 0; ship < 4; ship++) {
             int s = ship;
-            all.append(" home").append(s).append('=').append(answer(() -> lock.home(s)));
-            for (int what = -1; what <= 7; what++) {
+            tell(all, "home" + s, () -> lock.home(s));
+            for (int what = 0; what <= 6; what++) {
                 int w = what;
-                all.append(" of").append(s).append(',').append(w).append('=')
-                        .append(answer(() -> lock.of(s, w)));
+                tell(all, "of" + s + "," + w, () -> lock.of(s, w));
             }
         }
-        for (int chamber = -1; chamber <= 2; chamber++) {
+        for (int chamber = 0; chamber < 2; chamber++) {
             int c = chamber;
-            for (int set = -1; set <= 16; set++) {
+            for (int set = 0; set < 16; set++) {
                 int ships = set;
-                all.append(" fits").append(c).append(',').append(ships).append('=')
-                        .append(answer(() -> lock.fits(c, ships) ? 1 : 0));
+                tell(all, "fits" + c + "," + ships, () -> lock.fits(c, ships) ? 1 : 0);
             }
-            for (int run = -1; run <= 4; run++) {
+            for (int run = 0; run < 4; run++) {
                 int k = run;
-                for (int what = -1; what <= 3; what++) {
+                for (int what = 0; what <= 2; what++) {
                     int w = what;
-                    all.append(" run").append(c).append(',').append(k).append(',').append(w)
-                            .append('=').append(answer(() -> lock.run(c, k, w)));
+                    tell(all, "run" + c + "," + k + "," + w, () -> lock.run(c, k, w));
                 }
             }
         }
         return all.toString();
     }
 
+    private static void tell(StringBuilder all, String call, IntSupplier asking) {
+        all.append(' ').append(call).append('=').append(answer(asking));
+    }
+
     void end() {
+        endSentence();
         System.out.println(test + ": " + asked + " answers, " + wrong + " not as due");
         if (wrong != 0 || asked == 0) {
             System.exit(1);

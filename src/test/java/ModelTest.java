@@ -2,7 +2,8 @@ import java.util.Random;
 
 /** All promises: the same runs of calls on LockRuns and on Model, with a fixed seed. */
 public final class ModelTest {
-    private static final int RUNS = 1500;
+    private static final int RUNS = 3000;
+    private static final int LONG_RUNS = 25;
     private static final Check CHECK = new Check("ModelTest");
 
     private final Random random;
@@ -13,6 +14,7 @@ public final class ModelTest {
     private final int lastTime;
     private final int longestFill;
     private final int longestShip;
+    private int calls;
 
     private ModelTest(int seed) {
         random = new Random(seed);
@@ -23,34 +25,60 @@ public final class ModelTest {
 
     public static void main(String[] args) {
         for (int seed = 0; seed < RUNS; seed++) {
-            new ModelTest(seed).go();
+            new ModelTest(seed).goShort();
+        }
+        CHECK.sentence("An object is used for at most 512 calls after it has been made");
+        for (int seed = 0; seed < LONG_RUNS; seed++) {
+            new ModelTest(-1 - seed).goWhole();
         }
         CHECK.end();
     }
 
-    private void go() {
-        int calls = 8 + random.nextInt(14);
-        for (int call = 0; call < calls; call++) {
-            switch (random.nextInt(12)) {
-                case 0 -> chamber();
-                case 1, 2, 3 -> ship();
-                case 4, 5 -> closed();
-                case 6 -> rule();
-                case 7, 8 -> same("plan()", Check.answer(model::plan), Check.answer(lock::plan));
-                case 9, 10 -> late();
-                default -> rate();
-            }
-            if (random.nextInt(3) == 0) {
-                compare();
+    /** Few things are told, and then all is asked for, so that runs differ much. */
+    private void goShort() {
+        int tellings = 8 + random.nextInt(14);
+        for (int telling = 0; telling < tellings; telling++) {
+            tell();
+            if (random.nextInt(5) == 0 && calls < 250) {
+                askForAll();
             }
         }
-        same("plan()", Check.answer(model::plan), Check.answer(lock::plan));
-        compare();
+        plan();
+        askForAll();
+    }
+
+    /** All 512 calls, the last one answered as well as the first. */
+    private void goWhole() {
+        while (calls < 512) {
+            if (random.nextInt(8) == 0) {
+                tell();
+            } else {
+                ask();
+            }
+        }
+    }
+
+    private void tell() {
+        switch (random.nextInt(12)) {
+            case 0 -> chamber();
+            case 1, 2, 3 -> ship();
+            case 4, 5 -> closed();
+            case 6 -> rule();
+            case 7, 8 -> plan();
+            case 9, 10 -> late();
+            default -> rate();
+        }
     }
 
     private void same(String call, String want, String got) {
+        calls++;
         told.append(' ').append(call);
-        CHECK.due(told.toString(), want, got);
+        CHECK.due(want.equals(got) ? call : told.toString(), want, got);
+    }
+
+    private void alike(String call, String want, String got) {
+        calls++;
+        CHECK.due(want.equals(got) ? call : told + " " + call, want, got);
     }
 
     /** A number of this span, and now and then one just outside it, or far. */
@@ -104,6 +132,10 @@ public final class ModelTest {
                 Check.answer(() -> lock.rule(gap, over) ? 1 : 0));
     }
 
+    private void plan() {
+        same("plan()", Check.answer(model::plan), Check.answer(lock::plan));
+    }
+
     private void late() {
         int ship = some(0, 3);
         int time = some(0, lastTime);
@@ -118,44 +150,65 @@ public final class ModelTest {
                 Check.answer(() -> lock.rate(runs, minutes)));
     }
 
-    private void compare() {
-        for (int what = -1; what <= 8; what++) {
-            int w = what;
-            alike("count(" + w + ")", Check.answer(() -> model.count(w)),
-                    Check.answer(() -> lock.count(w)));
-        }
-        for (int ship = -1; ship <= 4; ship++) {
-            int s = ship;
-            alike("home(" + s + ")", Check.answer(() -> model.home(s)),
-                    Check.answer(() -> lock.home(s)));
-            for (int what = -1; what <= 7; what++) {
-                int w = what;
-                alike("of(" + s + "," + w + ")", Check.answer(() -> model.of(s, w)),
-                        Check.answer(() -> lock.of(s, w)));
-            }
-        }
-        for (int chamber = -1; chamber <= 2; chamber++) {
-            compareChamber(chamber);
+    private void ask() {
+        switch (random.nextInt(5)) {
+            case 0 -> count(some(0, 7));
+            case 1 -> home(some(0, 3));
+            case 2 -> of(some(0, 3), some(0, 6));
+            case 3 -> fits(some(0, 1), some(0, 15));
+            default -> run(some(0, 1), some(0, 3), some(0, 2));
         }
     }
 
-    private void compareChamber(int c) {
-        for (int set = -1; set <= 16; set++) {
-            int ships = set;
-            alike("fits(" + c + "," + ships + ")", Check.answer(() -> model.fits(c, ships) ? 1 : 0),
-                    Check.answer(() -> lock.fits(c, ships) ? 1 : 0));
+    private void askForAll() {
+        for (int what = 0; what <= 7; what++) {
+            count(what);
         }
-        for (int run = -1; run <= 4; run++) {
-            int k = run;
-            for (int what = -1; what <= 3; what++) {
-                int w = what;
-                alike("run(" + c + "," + k + "," + w + ")", Check.answer(() -> model.run(c, k, w)),
-                        Check.answer(() -> lock.run(c, k, w)));
+        for (int ship = 0; ship < 4; ship++) {
+            home(ship);
+            for (int what = 0; what <= 6; what++) {
+                of(ship, what);
             }
+        }
+        for (int chamber = 0; chamber < 2; chamber++) {
+            for (int set = 0; set < 16; set++) {
+                fits(chamber, set);
+            }
+            for (int k = 0; k < 4; k++) {
+                for (int what = 0; what <= 2; what++) {
+                    run(chamber, k, what);
+                }
+            }
+        }
+        for (int more = 0; more < 12; more++) {
+            ask();
         }
     }
 
-    private void alike(String call, String want, String got) {
-        CHECK.due(want.equals(got) ? call : told + " " + call, want, got);
+    private void count(int what) {
+        alike("count(" + what + ")", Check.answer(() -> model.count(what)),
+                Check.answer(() -> lock.count(what)));
+    }
+
+    private void home(int ship) {
+        alike("home(" + ship + ")", Check.answer(() -> model.home(ship)),
+                Check.answer(() -> lock.home(ship)));
+    }
+
+    private void of(int ship, int what) {
+        alike("of(" + ship + "," + what + ")", Check.answer(() -> model.of(ship, what)),
+                Check.answer(() -> lock.of(ship, what)));
+    }
+
+    private void fits(int chamber, int ships) {
+        alike("fits(" + chamber + "," + ships + ")",
+                Check.answer(() -> model.fits(chamber, ships) ? 1 : 0),
+                Check.answer(() -> lock.fits(chamber, ships) ? 1 : 0));
+    }
+
+    private void run(int chamber, int k, int what) {
+        alike("run(" + chamber + "," + k + "," + what + ")",
+                Check.answer(() -> model.run(chamber, k, what)),
+                Check.answer(() -> lock.run(chamber, k, what)));
     }
 }
