@@ -52,7 +52,9 @@ final class Check {
         try {
             return Integer.toString(asking.getAsInt());
         } catch (RuntimeException e) {
-            return "throws." + e.getClass().getSimpleName();
+            // The others that the machine throws have names of their own.
+            boolean divided = "/ by zero".equals(e.getMessage());
+            return "throws." + e.getClass().getSimpleName() + (divided ? " of the machine" : "");
         }
     }
 

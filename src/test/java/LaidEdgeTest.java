@@ -284,6 +284,11 @@ public final class LaidEdgeTest {
             lock.ship(1, 1, 0, 0, 2);
             lock.rule(gap, 3);
             places("gap " + gap, lock, 0, 0, 2 + gap, 0);
+            LockRuns full = Locks.one(5 + gap, 1, 10);
+            full.ship(2, 1, 0, 0, 2);
+            full.ship(3, 1, 0, 0, 2);
+            full.rule(gap, 3);
+            places("gap " + gap + " up to the wall", full, 0, 0, 2 + gap, 0);
         }
         LockRuns later = Locks.one(8, 2, 10);
         later.ship(1, 2, 0, 0, 2);

@@ -252,7 +252,28 @@ final class Model {
         return true;
     }
 
+    /** For each chamber and time, how many of the times ahead of it are in closed spans. */
+    private int[][] shutTimes() {
+        int[][] shut = new int[chambers.size()][12000];
+        for (int c = 0; c < chambers.size(); c++) {
+            for (int time = 1; time < 12000; time++) {
+                shut[c][time] = shut[c][time - 1] + (isShut(c, time - 1) ? 1 : 0);
+            }
+        }
+        return shut;
+    }
+
+    private boolean isShut(int c, int time) {
+        for (Span span : spans) {
+            if (span.chamber() == c && span.from() <= time && time < span.to()) {
+                return true;
+            }
+        }
+        return false;
+    }
+
     private Plan bestPlan() {
+        int[][] shut = shutTimes();
         Plan best = null;
         int n = ships.size();
         int slots = 4 * chambers.size();
@@ -266,7 +287,7 @@ final class Model {
                 run[s] = rest % slots % 4;
                 rest /= slots;
             }
-            Plan one = timed(chamber, run);
+            Plan one = canBe(chamber, run) ? timed(chamber, run, shut) : null;
             if (one != null && (best == null || ahead(one, best))) {
                 best = one;
             }
@@ -289,34 +310,59 @@ final class Model {
         return false;
     }
 
-    /** The plan with these runs, or null if it can't be. */
-    private Plan timed(int[] chamber, int[] run) {
+    /** Whether no run is left out, and the ships of each have one direction and fit. */
+    private boolean canBe(int[] chamber, int[] run) {
+        for (int c = 0; c < chambers.size(); c++) {
+            boolean ended = false;
+            for (int k = 0; k < 4; k++) {
+                int set = inRun(chamber, run, c, k);
+                if (set != 0 && (ended || directions(set) == 3)) {
+                    return false;
+                }
+                ended = set == 0;
+            }
+        }
+        for (int s = 0; s < chamber.length; s++) {
+            if (places(chamber[s], inRun(chamber, run, chamber[s], run[s])) == null) {
+                return false;
+            }
+        }
+        return true;
+    }
+
+    private static int inRun(int[] chamber, int[] run, int c, int k) {
+        int set = 0;
+        for (int s = 0; s < chamber.length; s++) {
+            set |= chamber[s] == c && run[s] == k ? 1 << s : 0;
+        }
+        return set;
+    }
+
+    private int directions(int set) {
+        int directions = 0;
+        for (int s = 0; s < ships.size(); s++) {
+            directions |= (set >> s & 1) == 1 ? 1 << ships.get(s).direction : 0;
+        }
+        return directions;
+    }
+
+    /** The plan with these runs, or null if one is overtaken too often. */
+    private Plan timed(int[] chamber, int[] run, int[][] shut) {
         int n = ships.size();
         int[] begin = new int[n];
         int waiting = 0;
         for (int c = 0; c < chambers.size(); c++) {
+            int fill = chambers.get(c).fill();
             int free = 0;
             int level = 0;
-            boolean ended = false;
             for (int k = 0; k < 4; k++) {
-                int set = 0;
-                int directions = 0;
-                for (int s = 0; s < n; s++) {
-                    if (chamber[s] == c && run[s] == k) {
-                        set |= 1 << s;
-                        directions |= 1 << ships.get(s).direction;
-                    }
-                }
+                int set = inRun(chamber, run, c, k);
                 if (set == 0) {
-                    ended = true;
                     continue;
                 }
-                if (ended || directions == 3 || places(c, set) == null) {
-                    return null;
-                }
-                int direction = directions - 1;
-                int time = level == direction ? free : free + chambers.get(c).fill();
-                while (!canBegin(c, set, time)) {
+                int direction = directions(set) - 1;
+                int time = level == direction ? free : free + fill;
+                while (!allAreThere(set, time) || shut[c][time + fill] != shut[c][time]) {
                     time++;
                 }
                 for (int s = 0; s < n; s++) {
@@ -325,7 +371,7 @@ final class Model {
                         waiting += time - ships.get(s).arrives;
                     }
                 }
-                free = time + chambers.get(c).fill();
+                free = time + fill;
                 level = 1 - direction;
             }
         }
@@ -337,15 +383,9 @@ final class Model {
         return new Plan(waiting, chamber, run, begin);
     }
 
-    private boolean canBegin(int c, int set, int time) {
+    private boolean allAreThere(int set, int time) {
         for (int s = 0; s < ships.size(); s++) {
             if ((set >> s & 1) == 1 && time < ships.get(s).arrives) {
-                return false;
-            }
-        }
-        for (Span span : spans) {
-            int last = time + chambers.get(c).fill() - 1;
-            if (span.chamber() == c && Math.max(time, span.from()) <= Math.min(last, span.to() - 1)) {
                 return false;
             }
         }

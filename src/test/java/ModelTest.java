@@ -14,6 +14,9 @@ public final class ModelTest {
     private final int lastTime;
     private final int longestFill;
     private final int longestShip;
+    // Long ships for a narrow chamber, wide ones for a short one, all of one direction: these
+    // can't go together, so that one overtakes the other.
+    private final boolean apart;
     private int calls;
 
     private ModelTest(int seed) {
@@ -21,6 +24,21 @@ public final class ModelTest {
         lastTime = new int[] {3, 12, 40, 1000}[random.nextInt(4)];
         longestFill = new int[] {2, 10, 60}[random.nextInt(3)];
         longestShip = new int[] {2, 4, 8}[random.nextInt(3)];
+        apart = random.nextInt(4) == 0;
+        if (apart) {
+            tellApart();
+        }
+    }
+
+    private void tellApart() {
+        chamber(8, 1, some(1, longestFill));
+        chamber(1, 3, some(1, longestFill));
+        closed(random.nextInt(2), 0, lastTime + some(0, longestFill));
+        rule(0, random.nextInt(4));
+        for (int ships = 2 + random.nextInt(3); ships > 0; ships--) {
+            ship();
+        }
+        plan();
     }
 
     public static void main(String[] args) {
@@ -99,16 +117,26 @@ public final class ModelTest {
     private void chamber() {
         int l = random.nextBoolean() ? longestShip : some(1, 8);
         int w = some(1, 3);
-        int f = some(1, longestFill);
+        chamber(l, w, some(1, longestFill));
+    }
+
+    private void chamber(int l, int w, int f) {
         same("chamber(" + l + "," + w + "," + f + ")", Check.answer(() -> model.chamber(l, w, f)),
                 Check.answer(() -> lock.chamber(l, w, f)));
     }
 
     private void ship() {
-        int l = some(1, longestShip);
-        int w = some(1, random.nextBoolean() ? 1 : 3);
         int a = some(0, lastTime);
-        int d = some(0, 1);
+        if (!apart) {
+            ship(some(1, longestShip), some(1, random.nextBoolean() ? 1 : 3), a, some(0, 1));
+        } else if (random.nextBoolean()) {
+            ship(some(2, 8), 1, a, 0);
+        } else {
+            ship(1, some(2, 3), a, 0);
+        }
+    }
+
+    private void ship(int l, int w, int a, int d) {
         int s = some(0, 2);
         same("ship(" + l + "," + w + "," + a + "," + d + "," + s + ")",
                 Check.answer(() -> model.ship(l, w, a, d, s)),
@@ -119,6 +147,10 @@ public final class ModelTest {
         int c = some(0, 1);
         int from = some(0, lastTime);
         int to = random.nextInt(20) == 0 ? some(9990, 10000) : from + some(0, longestFill * 2);
+        closed(c, from, to);
+    }
+
+    private void closed(int c, int from, int to) {
         same("closed(" + c + "," + from + "," + to + ")",
                 Check.answer(() -> model.closed(c, from, to) ? 1 : 0),
                 Check.answer(() -> lock.closed(c, from, to) ? 1 : 0));
@@ -126,7 +158,10 @@ public final class ModelTest {
 
     private void rule() {
         int gap = some(0, random.nextBoolean() ? 1 : 3);
-        int over = some(0, 3);
+        rule(gap, some(0, 3));
+    }
+
+    private void rule(int gap, int over) {
         same("rule(" + gap + "," + over + ")",
                 Check.answer(() -> model.rule(gap, over) ? 1 : 0),
                 Check.answer(() -> lock.rule(gap, over) ? 1 : 0));

@@ -11,6 +11,7 @@ public final class OvertakingEdgeTest {
         overIsThreeAtFirst();
         overGoesFromNoughtToThree();
         overIsReachedButNotPassed();
+        overIsForEachShip();
         overMayLeaveNoPlan();
         waitingIsBeginningLessArrival();
         waitingOfAPlanIsTheSum();
@@ -181,6 +182,25 @@ public final class OvertakingEdgeTest {
         }
     }
 
+    private static void overIsForEachShip() {
+        CHECK.sentence("A ship is OVERTAKEN .. OVER times at most");
+        // Ships 0 and 1 wait together, and each is overtaken once.
+        LockRuns lock = apart();
+        lock.ship(4, 1, 0, Locks.UP, 2);
+        lock.ship(4, 1, 0, Locks.UP, 2);
+        wideShip(lock, 1, Locks.UP);
+        lock.rule(0, 1);
+        CHECK.due("plan() with OVER 1", 1000, lock.plan());
+        CHECK.due("of(0, 6)", 1, lock.of(0, 6));
+        CHECK.due("of(1, 6)", 1, lock.of(1, 6));
+        wideShip(lock, 1, Locks.UP);
+        CHECK.due("plan() with two that overtake and OVER 1", -1, lock.plan());
+        lock.rule(0, 2);
+        CHECK.due("plan() with two that overtake and OVER 2", 1020, lock.plan());
+        CHECK.due("of(0, 6)", 2, lock.of(0, 6));
+        CHECK.due("of(1, 6)", 2, lock.of(1, 6));
+    }
+
     private static void overMayLeaveNoPlan() {
         CHECK.sentence("plan: NONE if there is none. (OVER)");
         for (int others = 1; others <= 3; others++) {
@@ -305,6 +325,16 @@ public final class OvertakingEdgeTest {
                         lock.of(ship, what));
             }
         }
+        // Ship 0 fits both; its chamber counts ahead of ship 1's beginning.
+        LockRuns ahead = Locks.one(8, 1, 10);
+        ahead.chamber(1, 3, 10);
+        ahead.ship(1, 1, 0, Locks.UP, 2);
+        Locks.longShip(ahead, 10, Locks.UP);
+        wideShip(ahead, 10, Locks.UP);
+        CHECK.due("plan() of one for both chambers", 10, ahead.plan());
+        CHECK.due("of(0, 0)", 0, ahead.of(0, 0));
+        CHECK.due("of(1, 2)", 20, ahead.of(1, 2));
+        CHECK.due("of(2, 2)", 10, ahead.of(2, 2));
         LockRuns turned = Locks.narrow(10);
         Locks.longShip(turned, 5, Locks.UP);
         Locks.longShip(turned, 0, Locks.UP);

@@ -95,6 +95,12 @@ public final class RunEdgeTest {
         same.ship(8, 1, 0, Locks.DOWN, 2);
         CHECK.due("plan() of one direction", 20, same.plan());
         CHECK.due("count(6)", 1, same.count(6));
+        LockRuns later = Locks.one(8, 2, 10);
+        later.ship(8, 1, 100, Locks.UP, 2);
+        later.ship(8, 1, 100, Locks.DOWN, 2);
+        CHECK.due("plan() of two directions with time to come back", 10, later.plan());
+        CHECK.due("run(0, 0, 2)", 1, later.run(0, 0, 2));
+        CHECK.due("run(0, 1, 2)", 2, later.run(0, 1, 2));
     }
 
     private static void shipsOfOneRunFit() {
