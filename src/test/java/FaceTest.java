@@ -8,6 +8,10 @@ import java.util.TreeSet;
 /** The public face, its constants, and promise 1: a new object. */
 public final class FaceTest {
     private static final Check CHECK = new Check("FaceTest");
+    private static final String ARGUMENT_STATE =
+            " throws IllegalArgumentException,IllegalStateException";
+    private static final String INDEX_STATE =
+            " throws IndexOutOfBoundsException,IllegalStateException";
 
     public static void main(String[] args) {
         theFaceIsTheDocuments();
@@ -19,10 +23,16 @@ public final class FaceTest {
     private static void theFaceIsTheDocuments() {
         Set<String> want = new TreeSet<>(Set.of(
                 "static final int NONE", "LockRuns()",
-                "int chamber(int,int,int)", "int ship(int,int,int,int,int)",
+                "int chamber(int,int,int)" + ARGUMENT_STATE,
+                "int ship(int,int,int,int,int)" + ARGUMENT_STATE,
                 "boolean closed(int,int,int)", "boolean rule(int,int)", "int plan()",
-                "boolean fits(int,int)", "int of(int,int)", "int run(int,int,int)",
-                "int late(int,int)", "int home(int)", "int rate(int,int)", "int count(int)"));
+                "boolean fits(int,int) throws IllegalArgumentException",
+                "int of(int,int)" + INDEX_STATE, "int run(int,int,int)" + INDEX_STATE,
+                "int late(int,int) throws IndexOutOfBoundsException"
+                        + ",IllegalArgumentException,IllegalStateException",
+                "int home(int) throws IndexOutOfBoundsException",
+                "int rate(int,int) throws IllegalArgumentException,ArithmeticException",
+                "int count(int)"));
         Set<String> got = new TreeSet<>();
         for (Field f : LockRuns.class.getDeclaredFields()) {
             if (!Modifier.isPrivate(f.getModifiers())) {
@@ -31,12 +41,14 @@ public final class FaceTest {
             }
         }
         for (Constructor<?> c : LockRuns.class.getDeclaredConstructors()) {
-            got.add("LockRuns(" + types(c.getParameterTypes()) + ")");
+            got.add("LockRuns(" + types(c.getParameterTypes()) + ")"
+                    + thrown(c.getExceptionTypes()));
         }
         for (Method m : LockRuns.class.getDeclaredMethods()) {
             if (!Modifier.isPrivate(m.getModifiers())) {
                 got.add(m.getReturnType() + " " + m.getName()
-                        + "(" + types(m.getParameterTypes()) + ")");
+                        + "(" + types(m.getParameterTypes()) + ")"
+                        + thrown(m.getExceptionTypes()));
             }
         }
         CHECK.due("the face", want, got);
@@ -48,9 +60,13 @@ public final class FaceTest {
     private static String types(Class<?>[] types) {
         StringBuilder all = new StringBuilder();
         for (Class<?> type : types) {
-            all.append(all.length() == 0 ? "" : ",").append(type);
+            all.append(all.length() == 0 ? "" : ",").append(type.getSimpleName());
         }
         return all.toString();
+    }
+
+    private static String thrown(Class<?>[] types) {
+        return types.length == 0 ? "" : " throws " + types(types);
     }
 
     private static void aNewObjectIsEmpty() {
